@@ -19,13 +19,12 @@ public final class PassageCourt {
     private final ArrayList<Person> persons = new ArrayList<Person>();
     private final ArrayList<Visa> visas = new ArrayList<Visa>();
     private final ArrayList<Request> requests = new ArrayList<Request>();
-    private final ArrayList<Rule> rules = new ArrayList<Rule>();
     private final Rule firstRule = new Rule(0, 90, 180);
+    private final ArrayList<Rule> laterRules = new ArrayList<Rule>();
     private int today;
 
     public PassageCourt() {
         today = 0;
-        rules.add(firstRule);
     }
 
     // ---- lands, rules, persons
@@ -60,11 +59,11 @@ public final class PassageCourt {
         if (day < today || day > LAST_DAY || most < 0 || most > 180 || window < 1 || window > YEAR) {
             throw new IllegalArgumentException("day, most or window is out of range");
         }
-        if (rules.size() >= MOST_RULES) {
+        if (countRules() >= MOST_RULES) {
             throw new IllegalStateException("there are 10 rules");
         }
-        rules.add(new Rule(day, most, window));
-        return rules.size();
+        laterRules.add(new Rule(day, most, window));
+        return countRules();
     }
 
     public int person(int nation, int age)
@@ -167,7 +166,6 @@ public final class PassageCourt {
         int length = Math.min(LONGEST_BAN, BAN_PER_DAY * overstayedDays(one));
         one.there = null;
         one.visa = null;
-        one.hasSlipped = false;
         if (length == 0) {
             return NONE;
         }
@@ -554,10 +552,14 @@ public final class PassageCourt {
         return record % LAND_UNIT >= VISITOR && land >= 0 && land < lands.size() && lands.get(land).isInRegion;
     }
 
+    private int countRules() {
+        return 1 + laterRules.size();
+    }
+
     private Rule ruleToday() {
         Rule found = firstRule;
-        for (int i = 0; i < rules.size(); i++) {
-            Rule told = rules.get(i);
+        for (int i = 0; i < laterRules.size(); i++) {
+            Rule told = laterRules.get(i);
             if (told.from <= today && told.from >= found.from) {
                 found = told;
             }

@@ -138,6 +138,12 @@ public final class CrossingTest {
         Check.due("banned where one is free of visas", x.enter(1, 1), 1);
         Check.due("never at home", x.enter(1, 0), 0);
 
+        PassageCourt w = four();
+        w.quota(1, 0, 1);
+        w.ask(1, 1, 0);
+        passTo(w, 0, 360);
+        Check.due("a permit of any land of the region", w.reason(1, 0), 0);
+
         PassageCourt z = four();
         z.quota(2, 0, 1);
         z.ask(1, 2, 0);

@@ -66,6 +66,7 @@ public final class DaysTest {
         Check.due("on the last day there is a status", z.status(0), PassageCourt.OVERSTAYED);
         Check.due("and a record", z.was(0, 3600), 4);
         Check.due("90 as a visitor, 3510 not any more", z.about(0, 4), 3510);
+        both(z, 0, "all days of the window", 180);
     }
 
     private static void passWrong() {

@@ -243,6 +243,21 @@ public final class LandsTest {
         x.nation(0, 2, false);
         Check.due("the father is of it, though abroad", x.about(x.birth(mother, 0), 1), 1);
 
+        PassageCourt w = fullOfLands();
+        w.person(1, 20);
+        w.person(4, 20);
+        w.nation(0, 7, true);
+        w.nation(0, 6, true);
+        w.slip(0, 6);
+        Check.due("of lands with any number, by descent and by soil", w.about(w.birth(0, 1), 1), 2 + 16 + 64 + 128);
+        PassageCourt v = empty();
+        v.land(true, false, true, 0);
+        v.land(true, true, false, 0);
+        v.person(0, 20);
+        v.nation(0, 1, true);
+        v.slip(0, 1);
+        Check.due("of one by descent, of the other by soil", v.about(v.birth(0, -1), 1), 3);
+
         PassageCourt z = empty();
         z.land(true, true, false, 0);
         z.land(true, false, false, 0);

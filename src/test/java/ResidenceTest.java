@@ -123,6 +123,14 @@ public final class ResidenceTest {
     }
 
     private static void quotaAtEachYear() {
+        PassageCourt z = five();
+        for (int land = 0; land < 2; land++) {
+            z.quota(land, 0, 1);
+            z.ask(land, land, 0);
+            z.ask(land + 1, land, 0);
+        }
+        passTo(z, 0, 360);
+        states(z, "one in each land", 1, 0, 1, 0);
         PassageCourt x = five();
         x.quota(0, 0, 1);
         x.ask(0, 0, 0);
@@ -555,6 +563,10 @@ public final class ResidenceTest {
         Check.due("APPEALED has none", x.ofRequest(2, 3), PassageCourt.NONE);
         Check.due("OVER has none", x.ofRequest(3, 3), PassageCourt.NONE);
         Check.due("GRANTED has none", granted().ofRequest(0, 3), PassageCourt.NONE);
+        x.ask(0, 1, 0);
+        x.ask(1, 1, 0);
+        Check.due("behind an odd number", x.ofRequest(8, 3), 1);
+        Check.due("behind odd and even ones", x.ofRequest(9, 3), 2);
         x.withdraw(0);
         Check.due("one place less", x.ofRequest(6, 3), 1);
         Check.due("followers stay", x.ofRequest(0, 2), 1);
