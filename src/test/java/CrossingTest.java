@@ -53,12 +53,6 @@ public final class CrossingTest {
         return x;
     }
 
-    private static void passTo(PassageCourt x, int from, int to) {
-        for (int day = from; day < to; day += 100) {
-            x.pass(Math.min(100, to - day));
-        }
-    }
-
     private static void enterInOrderOfReasons() {
         PassageCourt x = four();
         x.rule(0, 0, 1);
@@ -99,7 +93,7 @@ public final class CrossingTest {
         x.quota(0, 0, 1);
         x.ask(1, 0, 0);
         x.rule(0, 5, 10);
-        passTo(x, 0, 360);
+        Check.passTo(x, 0, 360);
         return x;
     }
 
@@ -111,7 +105,7 @@ public final class CrossingTest {
         Check.due("resident, though banned and without days", x.enter(1, 0), 0);
         Check.due("resident", x.status(1), PassageCourt.RESIDENT);
         Check.due("no visa", x.about(1, 3), PassageCourt.NONE);
-        passTo(x, 360, 719);
+        Check.passTo(x, 360, 719);
         Check.due("until its last day", x.status(1), PassageCourt.RESIDENT);
         Check.due("no day counted", x.about(1, 2), 0);
         x.pass(1);
@@ -141,13 +135,13 @@ public final class CrossingTest {
         PassageCourt w = four();
         w.quota(1, 0, 1);
         w.ask(1, 1, 0);
-        passTo(w, 0, 360);
+        Check.passTo(w, 0, 360);
         Check.due("a permit of any land of the region", w.reason(1, 0), 0);
 
         PassageCourt z = four();
         z.quota(2, 0, 1);
         z.ask(1, 2, 0);
-        passTo(z, 0, 360);
+        Check.passTo(z, 0, 360);
         Check.due("a permit of a land outside", z.enter(1, 0), 2);
         Check.due("does there", z.enter(1, 2), 0);
         z.leave(1);
@@ -184,7 +178,7 @@ public final class CrossingTest {
 
         PassageCourt z = granted();
         Check.due("a resident may", z.slip(1, 0), PassageCourt.RESIDENT);
-        passTo(z, 360, 720);
+        Check.passTo(z, 360, 720);
         Check.due("but slipped in", z.status(1), PassageCourt.OVERSTAYED);
     }
 
@@ -260,7 +254,7 @@ public final class CrossingTest {
         x.pass(1);
         Check.due("banned from the next day on", x.reason(1, 0), 1);
         Check.due("nowhere on that", x.was(1, 4), 0);
-        passTo(x, 4, 13);
+        Check.passTo(x, 4, 13);
         Check.due("the last day", x.reason(1, 0), 1);
         x.pass(1);
         Check.due("over", x.reason(1, 0), 2);

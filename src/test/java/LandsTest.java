@@ -38,12 +38,6 @@ public final class LandsTest {
         return x;
     }
 
-    private static void passTo(PassageCourt x, int from, int to) {
-        for (int day = from; day < to; day += 100) {
-            x.pass(Math.min(100, to - day));
-        }
-    }
-
     private static void newObject() {
         PassageCourt x = empty();
         Check.due("the first land", x.land(true, true, true, 0), 0);
@@ -116,7 +110,7 @@ public final class LandsTest {
         x.leave(0);
         x.pass(1);
         Check.due("a 91st may not", x.enter(0, 0), 3);
-        passTo(x, 90, 179);
+        Check.passTo(x, 90, 179);
         Check.due("180 days still hold the first", x.enter(0, 0), 3);
         Check.due("90 count still", x.about(0, 2), 90);
         x.pass(1);
@@ -282,7 +276,7 @@ public final class LandsTest {
         x.quota(0, 0, 1);
         x.ask(1, 0, 0);
         x.slip(0, 0);
-        passTo(x, 0, 359);
+        Check.passTo(x, 0, 359);
         Check.due("no permit yet", x.about(x.birth(0, 1), 1), 0);
         x.pass(1);
         Check.due("the father abroad has a permit", x.about(x.birth(0, 1), 1), 1);
@@ -291,7 +285,7 @@ public final class LandsTest {
         Check.due("the mother has", x.about(x.birth(1, 0), 1), 1);
         x.move(0, 1);
         Check.due("not of this land", x.about(x.birth(0, 1), 1), 0);
-        passTo(x, 360, 719);
+        Check.passTo(x, 360, 719);
         Check.due("on its last day", x.about(x.birth(1, -1), 1), 1);
         x.pass(1);
         Check.due("not valid any more", x.about(x.birth(1, -1), 1), 0);

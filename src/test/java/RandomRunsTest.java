@@ -12,8 +12,9 @@ public final class RandomRunsTest {
             for (int call = 0; call < CALLS; call++) {
                 int which = call < 30 ? next(8) : next(29);
                 String thrown = thrownBy(x, which);
-                boolean isNamed = thrown.isEmpty() || thrown.equals("IndexOutOfBoundsException")
-                    || thrown.equals("IllegalArgumentException") || thrown.equals("IllegalStateException");
+                boolean isNamed = thrown.isEmpty() || thrown.equals("java.lang.IndexOutOfBoundsException")
+                    || thrown.equals("java.lang.IllegalArgumentException")
+                    || thrown.equals("java.lang.IllegalStateException");
                 Check.due("run " + run + ", call " + call + " of kind " + which + " throws only what is named, not "
                     + thrown, isNamed, true);
                 if (call % 16 == 0) {
@@ -55,7 +56,7 @@ public final class RandomRunsTest {
                 settle(x, which);
             }
         } catch (RuntimeException e) {
-            return e.getClass().getSimpleName();
+            return Check.nameOf(e);
         }
         return "";
     }

@@ -44,12 +44,6 @@ public final class ResidenceTest {
         return x;
     }
 
-    private static void passTo(PassageCourt x, int from, int to) {
-        for (int day = from; day < to; day += 100) {
-            x.pass(Math.min(100, to - day));
-        }
-    }
-
     private static void quota() {
         PassageCourt x = five();
         Check.due("0 at first", x.quota(2, 2, 9), 0);
@@ -80,7 +74,7 @@ public final class ResidenceTest {
         x.ask(2, 0, 1);
         x.ask(3, 0, 0);
         x.ask(4, 0, 2);
-        passTo(x, 0, 359);
+        Check.passTo(x, 0, 359);
         states(x, "not yet", 0, 0, 0, 0, 0);
         x.pass(1);
         states(x, "3 - 1, and 1 - 1, and 2 of 3", 1, 1, 1, 1, 0);
@@ -95,11 +89,11 @@ public final class ResidenceTest {
         x.ask(1, 0, 0);
         x.ask(2, 1, 0);
         x.ask(3, 0, 1);
-        passTo(x, 0, 360);
+        Check.passTo(x, 0, 360);
         states(x, "nothing back to a class ahead, nor to another land", 1, 0, 0, 0);
         x.quota(0, 0, 0);
         x.quota(0, 2, 0);
-        passTo(x, 360, 720);
+        Check.passTo(x, 360, 720);
         states(x, "nor to another year", 1, 0, 0, 0);
     }
 
@@ -118,7 +112,7 @@ public final class ResidenceTest {
         Check.due("its date", x.ofRequest(0, 1), 0);
         Check.due("its place", x.ofRequest(0, 3), 0);
         x.refuse(1);
-        passTo(x, 10, 360);
+        Check.passTo(x, 10, 360);
         states(x, "the earlier, and the lower of those", 1, 4, 1, 0);
     }
 
@@ -129,19 +123,19 @@ public final class ResidenceTest {
             z.ask(land, land, 0);
             z.ask(land + 1, land, 0);
         }
-        passTo(z, 0, 360);
+        Check.passTo(z, 0, 360);
         states(z, "one in each land", 1, 0, 1, 0);
         PassageCourt x = five();
         x.quota(0, 0, 1);
         x.ask(0, 0, 0);
         x.ask(1, 0, 0);
         x.ask(2, 0, 0);
-        passTo(x, 0, 719);
+        Check.passTo(x, 0, 719);
         states(x, "one in a year", 1, 0, 0);
         x.pass(1);
         states(x, "two in two", 1, 1, 0);
         x.quota(0, 0, 0);
-        passTo(x, 720, 3599);
+        Check.passTo(x, 720, 3599);
         x.quota(0, 0, 1);
         states(x, "none more", 1, 1, 0);
         x.pass(1);
@@ -165,7 +159,7 @@ public final class ResidenceTest {
         x.withdraw(0);
         Check.due("that one is over", x.ask(0, 0, 0), 3);
         x.quota(0, 0, 9);
-        passTo(x, 0, 360);
+        Check.passTo(x, 0, 360);
         Check.due("that one is granted", x.ask(0, 0, 1), 4);
         Check.due("a second one", x.ask(1, 0, 1), 5);
     }
@@ -211,7 +205,7 @@ public final class ResidenceTest {
         Check.due("of another one too", x.join(1, 4), 1);
         Check.due("three follow", x.ofRequest(0, 2), 3);
         x.quota(0, 0, 1);
-        passTo(x, 0, 360);
+        Check.passTo(x, 0, 360);
         Check.due("one place", x.ofRequest(1, 0), PassageCourt.WAITING);
         Check.due("for whom it is", x.permit(0, 0), 719);
         Check.due("who follow", x.permit(1, 0), 719);
@@ -225,7 +219,7 @@ public final class ResidenceTest {
         int child = z.birth(0, 4);
         z.ask(0, 0, 0);
         z.ask(4, 0, 0);
-        passTo(z, 0, 100);
+        Check.passTo(z, 0, 100);
         int later = z.birth(0, PassageCourt.NONE);
         Check.due("a child of the mother", z.join(0, child), 1);
         Check.due("a child of the father", z.join(1, child), 1);
@@ -340,7 +334,7 @@ public final class ResidenceTest {
         PassageCourt x = five();
         x.quota(0, 0, 1);
         x.ask(0, 0, 0);
-        passTo(x, 0, 360);
+        Check.passTo(x, 0, 360);
         x.enter(0, 0);
         return x;
     }
@@ -350,14 +344,14 @@ public final class ResidenceTest {
         x.quota(0, 0, 1);
         x.ask(0, 0, 0);
         x.slip(0, 0);
-        passTo(x, 0, 359);
+        Check.passTo(x, 0, 359);
         Check.due("none yet", x.permit(0, 0), PassageCourt.NONE);
         x.pass(1);
         Check.due("that day with them", x.permit(0, 0), 719);
         Check.due("looked at ahead of the quotas", x.status(0), PassageCourt.OVERSTAYED);
         x.pass(1);
         Check.due("resident on the next day", x.status(0), PassageCourt.RESIDENT);
-        passTo(x, 361, 719);
+        Check.passTo(x, 361, 719);
         Check.due("the last day", x.permit(0, 0), 719);
         x.pass(1);
         Check.due("over", x.permit(0, 0), PassageCourt.NONE);
@@ -372,7 +366,7 @@ public final class ResidenceTest {
 
     private static PassageCourt there179() {
         PassageCourt x = granted();
-        passTo(x, 360, 538);
+        Check.passTo(x, 360, 538);
         return x;
     }
 
@@ -383,31 +377,31 @@ public final class ResidenceTest {
         Check.due("until then", x.permit(0, 0), 1079);
         Check.due("and again", x.extend(0, 0), 1439);
         PassageCourt z = granted();
-        passTo(z, 360, 539);
+        Check.passTo(z, 360, 539);
         z.leave(0);
-        passTo(z, 539, 719);
+        Check.passTo(z, 539, 719);
         Check.due("from abroad, on its last day", z.extend(0, 0), 1079);
         PassageCourt w = granted();
-        passTo(w, 360, 539);
+        Check.passTo(w, 360, 539);
         w.extend(0, 0);
         w.leave(0);
-        passTo(w, 539, 719);
+        Check.passTo(w, 539, 719);
         Check.due("360 to 539 of 360 to 719", w.extend(0, 0), 1439);
         Check.refused("361 to 539 of 361 to 720", STATE, ResidenceTest::left180, y -> y.extend(0, 0));
     }
 
     private static PassageCourt left180() {
         PassageCourt x = granted();
-        passTo(x, 360, 539);
+        Check.passTo(x, 360, 539);
         x.extend(0, 0);
         x.leave(0);
-        passTo(x, 539, 720);
+        Check.passTo(x, 539, 720);
         return x;
     }
 
     private static PassageCourt movedOn() {
         PassageCourt x = granted();
-        passTo(x, 360, 539);
+        Check.passTo(x, 360, 539);
         x.move(0, 1);
         return x;
     }
@@ -420,9 +414,9 @@ public final class ResidenceTest {
         PassageCourt z = five();
         z.quota(0, 0, 1);
         z.ask(0, 0, 0);
-        passTo(z, 0, 180);
+        Check.passTo(z, 0, 180);
         z.slip(0, 0);
-        passTo(z, 180, 360);
+        Check.passTo(z, 180, 360);
         Check.due("180 to 360, as whatever", z.extend(0, 0), 1079);
     }
 
@@ -439,33 +433,33 @@ public final class ResidenceTest {
 
     private static PassageCourt thereOver() {
         PassageCourt x = granted();
-        passTo(x, 360, 720);
+        Check.passTo(x, 360, 720);
         return x;
     }
 
     private static void permitGoesOn() {
         PassageCourt x = granted();
-        passTo(x, 360, 600);
+        Check.passTo(x, 360, 600);
         x.extend(0, 0);
         x.extend(0, 0);
         x.ask(0, 0, 0);
-        passTo(x, 600, 720);
+        Check.passTo(x, 600, 720);
         Check.due("granted", x.ofRequest(1, 0), PassageCourt.GRANTED);
         Check.due("at least so long as it was", x.permit(0, 0), 1439);
-        passTo(x, 720, 1000);
+        Check.passTo(x, 720, 1000);
         x.extend(0, 0);
-        passTo(x, 1000, 1440);
+        Check.passTo(x, 1000, 1440);
         Check.due("without a break since 360", x.oath(0, 0), 5);
     }
 
     private static PassageCourt years() {
         PassageCourt x = granted();
-        passTo(x, 360, 600);
+        Check.passTo(x, 360, 600);
         x.extend(0, 0);
         x.extend(0, 0);
         x.extend(0, 0);
         x.ask(1, 0, 0);
-        passTo(x, 600, 1439);
+        Check.passTo(x, 600, 1439);
         return x;
     }
 
@@ -490,13 +484,13 @@ public final class ResidenceTest {
         x.quota(0, 0, 1);
         x.slip(0, 0);
         x.ask(0, 0, 0);
-        passTo(x, 0, 600);
+        Check.passTo(x, 0, 600);
         x.ask(0, 0, 0);
-        passTo(x, 600, 720);
+        Check.passTo(x, 600, 720);
         x.extend(0, 0);
         x.extend(0, 0);
         x.extend(0, 0);
-        passTo(x, 720, 1799);
+        Check.passTo(x, 720, 1799);
         return x;
     }
 
@@ -528,7 +522,7 @@ public final class ResidenceTest {
 
     private static PassageCourt overAgain() {
         PassageCourt x = threeYears();
-        passTo(x, 1440, 1800);
+        Check.passTo(x, 1440, 1800);
         return x;
     }
 
