@@ -21,6 +21,7 @@ public final class TermsResidenceTest {
         permitOf360Days();
         permitGoesOn();
         permitValidAtLeastSoLong();
+        permitOfOneWhoFollowsGoesOn();
         extendedBy360Days();
         thereOn180Of360();
         the360DaysEndToday();
@@ -393,6 +394,29 @@ public final class TermsResidenceTest {
             Check.due("granted", x.ofRequest(1, 0), GRANTED);
             Check.due("the later of both", x.permit(0, 0), Math.max(1079, 719 + 360 * extensions));
         }
+    }
+
+    // "the person and all who follow have a permit of the land": of one who follows it goes on as of any other
+    private static void permitOfOneWhoFollowsGoesOn() {
+        PassageCourt x = askedAgain(1);
+        x.join(1, 5);
+        x.join(x.ask(6, 0, 0), 5);
+        x.quota(0, 0, 2);
+        x.pass(1);
+        states(x, "that of the year ahead, and two of this one", GRANTED, GRANTED, GRANTED);
+        Check.due("granted twice on a day: once", x.permit(5, 0), 1079);
+        x.ask(6, 0, 0);
+        x.join(3, 5);
+        x.join(3, 0);
+        x.extend(0, 0);
+        Check.passTo(x, 720, 1080);
+        Check.due("it was over on the day ahead: another one", x.permit(5, 0), 1439);
+        Check.due("of one who had it longer", x.permit(0, 0), 1439);
+        x.slip(5, 0);
+        x.extend(0, 0);
+        Check.passTo(x, 1080, 1440);
+        Check.due("without a break since 360, then by following", x.oath(0, 0), 5);
+        Check.due("since 1080 alone", Check.thrownBy(x, y -> y.oath(5, 0)).equals(STATE.getName()), true);
     }
 
     // "A permit can be extended by 360 days, if it is valid"

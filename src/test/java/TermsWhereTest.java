@@ -4,6 +4,7 @@ public final class TermsWhereTest {
     private static final int VISITOR = PassageCourt.VISITOR, OVERSTAYED = PassageCourt.OVERSTAYED;
 
     public static void main(String[] args) {
+        slipsInWithoutBeingAsked();
         fromEnteringToLeaving();
         theLastLookOfTheDay();
         callsThatDoNotLook();
@@ -44,6 +45,24 @@ public final class TermsWhereTest {
     private static void both(PassageCourt x, int person, String what, int due) {
         Check.due(what, x.about(person, 2), due);
         Check.due(what + ", anew", x.daysAnew(person), due);
+    }
+
+    // "or it slips in, without being asked"
+    private static void slipsInWithoutBeingAsked() {
+        for (int land = 0; land < 4; land++) {
+            PassageCourt x = three();
+            x.rule(0, 0, 1);
+            Check.due("a visa", x.visa(1, land, 0, 9, 1, 9), 0);
+            for (int maker = 0; maker < 4; maker++) {
+                x.ban(maker, 1, 9);
+            }
+            Check.due("banned by all", x.enter(1, land), 1);
+            Check.due("slips in all the same", x.slip(1, land), OVERSTAYED);
+            Check.due("is there", x.about(1, 0), land);
+            Check.due("has taken no visa", x.about(1, 3), PassageCourt.NONE);
+            Check.due("no entry and no day of it", x.ofVisa(0, 0) * 10 + x.ofVisa(0, 1), 19);
+            Check.due("it may not enter still", x.reason(1, land), 1);
+        }
     }
 
     // "On each day on which a person is in a land, also that of entering and that of leaving, it has a status there"
