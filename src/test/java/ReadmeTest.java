@@ -51,7 +51,9 @@ public final class ReadmeTest {
         } catch (InvocationTargetException e) {
             thrown = Check.nameOf((RuntimeException) e.getCause());
         }
-        KNOWN.put(String.valueOf(call.group(1)), answer);
+        if (call.group(1) != null) {
+            KNOWN.put(call.group(1), answer);
+        }
         boolean holds = call.group(4) == null ? answer.equals(value(call.group(5)))
             : thrown.equals("java.lang." + call.group(5));
         Check.due("README.md: answered " + answer + ", threw " + thrown + ": " + line, holds, true);
